@@ -826,11 +826,14 @@ public final class RasherCase {
             this.parish = parish;
         }
 
+        /** A cell has but two smells, one on days that 7 divides, so they are not reckoned anew for each day. */
         private void reckon(int kind, int cell, int hungBits, int days) {
+            int dripping = parish.scentAt(cell, 7, hungBits);
+            int dry = parish.scentAt(cell, 1, hungBits);
             taken[0] = 0;
             for (int t = 0; t < days && t < HORIZON; t++) {
                 int onDay = parish.day + t;
-                taken[t + 1] = taken[t] + Nature.loss(kind, parish.scentAt(cell, onDay, hungBits), onDay);
+                taken[t + 1] = taken[t] + Nature.loss(kind, onDay % 7 == 0 ? dripping : dry, onDay);
             }
         }
 
@@ -841,8 +844,12 @@ public final class RasherCase {
 
         int lapseWithin(int i, int cell, int days) {
             reckon(parish.familyKind[i], cell, parish.hung, days);
+            return firstLapse(parish.familyWill[i], days);
+        }
+
+        private int firstLapse(int will, int days) {
             for (int t = 0; t <= days && t <= HORIZON; t++) {
-                if (taken[t] >= parish.familyWill[i]) {
+                if (taken[t] >= will) {
                     return t;
                 }
             }
@@ -851,7 +858,8 @@ public final class RasherCase {
 
         private void reckonLapses(int days) {
             for (int i = 0; i < parish.familyCount; i++) {
-                lapses[i] = lapseWithin(i, parish.familyCell[i], days);
+                reckon(parish.familyKind[i], parish.familyCell[i], parish.hung, days);
+                lapses[i] = firstLapse(parish.familyWill[i], days);
             }
         }
 
@@ -1242,12 +1250,15 @@ public final class RasherCase {
         private static final int END = 0;
         private static final int SEMICOLON = 1;
         private static final int NUMBER = 2;
-        private static final int WRONG = 3;
-        private static final int PARISH = 4;
-        private static final int FLITCH = 5;
-        private static final int FAMILY = 6;
-        private static final int OUT = 7;
-        private static final int DAYS = 8;
+        private static final int WORD = 3;
+        private static final int WRONG = 4;
+
+        private static final int NO_WORD = 0;
+        private static final int PARISH = 1;
+        private static final int FLITCH = 2;
+        private static final int FAMILY = 3;
+        private static final int OUT = 4;
+        private static final int DAYS = 5;
 
         final Parish draft = new Parish();
         private final byte[] bytes;
@@ -1268,7 +1279,7 @@ public final class RasherCase {
             length = Math.min(textLength, bytes.length);
             place = 0;
             advance();
-            if (token != PARISH || !endsItem()) {
+            if (wordHere() != PARISH || !endsItem()) {
                 return APART - start;
             }
             int items = 1;
@@ -1277,7 +1288,7 @@ public final class RasherCase {
                 if (token == END) {
                     break;
                 }
-                int word = token;
+                int word = wordHere();
                 if (!takesNumbers(word) || !endsItem()) {
                     return APART - start;
                 }
@@ -1342,7 +1353,7 @@ public final class RasherCase {
             if (place >= length) {
                 token = END;
             } else if (isLetter(bytes[place])) {
-                takeWord();
+                takeLetters();
             } else if (isFigure(bytes[place])) {
                 takeFigures();
             } else {
@@ -1351,21 +1362,30 @@ public final class RasherCase {
             }
         }
 
-        private void takeWord() {
+        private void takeLetters() {
             while (place < length && isLetter(bytes[place])) {
                 place++;
             }
-            if (wordIs("parish")) {
-                token = PARISH;
-            } else if (wordIs("flitch")) {
-                token = FLITCH;
-            } else if (wordIs("family")) {
-                token = FAMILY;
-            } else if (wordIs("out")) {
-                token = OUT;
-            } else {
-                token = wordIs("days") ? DAYS : WRONG;
+            token = WORD;
+        }
+
+        private int wordHere() {
+            if (token != WORD) {
+                return NO_WORD;
             }
+            if (wordIs("parish")) {
+                return PARISH;
+            }
+            if (wordIs("flitch")) {
+                return FLITCH;
+            }
+            if (wordIs("family")) {
+                return FAMILY;
+            }
+            if (wordIs("out")) {
+                return OUT;
+            }
+            return wordIs("days") ? DAYS : NO_WORD;
         }
 
         private boolean wordIs(String word) {

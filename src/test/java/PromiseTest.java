@@ -206,6 +206,15 @@ public final class PromiseTest {
         fault("parish  ", 8);
         fault("paris", 0);
         fault("parishs;", 0);
+        fault("parishz;", 0);
+        fault("aparish;", 0);
+        fault("xarish;", 0);
+        fault("parish;xays 1;", 7);
+        fault("parish;flitch 0 0 1;xut 0;", 20);
+        fault("parish`", 6);
+        fault("parish{", 6);
+        fault("parish;days :;", 12);
+        fault("parish;days /;", 12);
         fault("Parish;", 0);
         fault("parisH;", 0);
         fault(";", 0);
@@ -251,6 +260,9 @@ public final class PromiseTest {
         fault(eight + "family x", 112);
         RasherCase x = new RasherCase();
         due("seven families", Check.told(x, eight.toString()), 8);
+        due("other numbers", Check.told(x, "parish;flitch 3 11 17;flitch 4 2 9;family 4 1 13 57;family 1 0 22 8;"), 5);
+        due("digest()", x.digest(), mixed(2, 2, 2, 0, 0, 65, 0, 0, 0, 0, 68, 3, 11, 17, 1, 4, 2, 9, 1,
+            4, 1, 13, 57, 0, 1, 0, 22, 8, 0, 0, 1));
         due("three flitches", Check.told(x, "parish;flitch 5 24 20;flitch 0 0 1;flitch 0 0 1;"), 4);
     }
 
@@ -390,6 +402,7 @@ public final class PromiseTest {
         x.forget(0);
         due("digest() as at first", x.digest(), first);
         due("undo()", x.undo(), NO);
+        many();
         RasherCase y = wills(1);
         for (int n = 1; n <= 10; n++) {
             y.days(n);
@@ -400,6 +413,18 @@ public final class PromiseTest {
             due("undo()", y.undo(), day);
         }
         due("count(4)", y.count(4), 3);
+    }
+
+    private static void many() {
+        RasherCase x = new RasherCase();
+        for (int i = 0; i < 7; i++) {
+            x.family(0, i % 2, 3 * i, 90 + i);
+        }
+        x.flitch(0, 0, 20);
+        long before = x.digest();
+        x.days(9);
+        x.undo();
+        due("digest() behind undoing days of seven", x.digest(), before);
     }
 
     private static void of() {
@@ -611,6 +636,12 @@ public final class PromiseTest {
             due("way(24, 0, " + k + ")", x.way(24, 0, k), back[k]);
         }
         due("way(4, 5, -3): rows have ends", x.way(4, 5, -3), 5);
+        for (int c = 0; c < 25; c++) {
+            for (int to = 0; to < 25; to++) {
+                int far = Math.abs(c / 5 - to / 5) + Math.abs(c % 5 - to % 5);
+                due("way(" + c + ", " + to + ", -3)", x.way(c, to, -3), far);
+            }
+        }
         x.flitch(0, 2, 2);
         due("way(1, 3, -2): round the door", x.way(1, 3, -2), 0);
         due("way(1, 3, -3)", x.way(1, 3, -3), 4);
@@ -642,6 +673,9 @@ public final class PromiseTest {
         RasherCase y = smelling(0, 99, 4);
         due("home(0): the first where it never does", y.home(0), 1);
         due("of(0, 2): nothing is changed", y.of(0, 2), 0);
+        RasherCase w = smelling(0, 60, 2);
+        due("when(0)", w.when(0), 60);
+        due("home(0): none is later than 60 days", w.home(0), 1);
         due("home(1)", y.home(1), BAD);
         due("home(-1)", y.home(-1), BAD);
         y.outs(0);
@@ -713,6 +747,10 @@ public final class PromiseTest {
         x.family(0, 0, 0, 99);
         due("marry(5)", x.marry(5), NONE);
         due("marry(-1)", x.marry(-1), 2);
+        x.parish();
+        x.family(0, 0, 0, 1);
+        due("marry(-1): there is but one now", x.marry(-1), 0);
+        due("marry(0)", x.marry(0), NONE);
         RasherCase y = wills(1, 7);
         due("marry(-1): unlike by 6", y.marry(-1), 0);
         y.flitch(0, 0, 4);
@@ -881,6 +919,18 @@ public final class PromiseTest {
         due("is(0): plain, dripping, sung", y.is(0), 1 + 4 + 32);
         due("look(0)", y.look(0), 10);
         due("look(1)", y.look(1), BAD);
+        RasherCase z = new RasherCase();
+        z.flitch(0, 0, 1);
+        z.note(0, 3, 1, 7, 6);
+        due("is(0): dripping, frying", z.is(0), 4 + 8);
+        due("look(0): alike on day 0, not on day 1", z.look(0), 1);
+        z.flitch(0, 0, 1);
+        z.note(1, 2, 1, 1, 0);
+        due("is(1): all but sung", z.is(1), 31);
+        due("look(1): plain and old, dripping and frying stay alike", z.look(1), 0);
+        z.note(1, 1, 0, 1, 1);
+        due("is(1): plain, dripping, old", z.is(1), 1 + 4 + 16);
+        due("look(1): one must stay alike", z.look(1), 0);
     }
 
     private static void kinds() {
@@ -949,6 +999,8 @@ public final class PromiseTest {
         due("brothers(0, 1): 12 and 9", x.brothers(0, 1), 2 + 8);
         due("brothers(1, 0)", x.brothers(1, 0), 4 + 8);
         x.turnip(1);
+        RasherCase y = wills(10, 10);
+        due("brothers(0, 1): 10 and 10", y.brothers(0, 1), 8);
         due("brothers(0, 1): 12 and 12", x.brothers(0, 1), 8);
         x.flitch(0, 0, 8);
         due("brothers(0, 1): 8 and 8", x.brothers(0, 1), 2 + 4);
@@ -1001,6 +1053,16 @@ public final class PromiseTest {
         fraction(y, 0, 2, 9, 0, 1);
         fraction(y, 0, 3, 9, 1, 100);
         due("status(0)", x.status(0), 6);
+        RasherCase z = new RasherCase();
+        z.family(3, 0, 0, 6);
+        z.days(1);
+        z.family(3, 0, 0, 6);
+        z.days(10);
+        fraction(z, 1, 2, 5, 0, 1);
+        fraction(z, 1, 3, 5, 1, 1);
+        RasherCase child = smelling(2, 6, 1);
+        fraction(child, 0, 3, 5, 1, 8);
+        fraction(child, 0, 6, 10, 0, 1);
         fraction(y, 0, 1, 5, 0, 1);
         fraction(y, 0, 6, 0, 1, 1);
         fraction(y, 0, 6, 9, 4073, 50000);
@@ -1032,8 +1094,7 @@ public final class PromiseTest {
         y.goes(0, 0);
         y.days(2);
         due("years(5, 0): who has lapsed is counted", y.years(5, 0), 1);
-        int[][] wants = {{1, 3}, {5, 60}, {12, 8}};
-        for (int[] w : wants) {
+        for (int seed = 0; seed < 999999; seed += 33331) {
             RasherCase z = new RasherCase();
             Model model = new Model();
             for (int i = 0; i < 7; i++) {
@@ -1042,7 +1103,9 @@ public final class PromiseTest {
             }
             z.flitch(0, 12, 12);
             model.flitch(0, 12, 12);
-            due("years as gone through day by day", z.years(w[0], w[1]), model.years(w[0], w[1]));
+            for (int n = 0; n <= 60; n++) {
+                due("years as gone through day by day", z.years(seed, n), model.years(seed, n));
+            }
         }
     }
 
@@ -1104,6 +1167,42 @@ public final class PromiseTest {
         x.from(1);
         x.from(0);
         due("count(0): an image is kept anew", x.count(0), 0);
+        imageOfAll();
+    }
+
+    private static void imageOfAll() {
+        RasherCase x = new RasherCase();
+        x.flitch(3, 11, 17);
+        x.flitch(5, 24, 2);
+        x.flitch(4, 6, 7);
+        for (int i = 0; i < 7; i++) {
+            x.family(i % 6, (i + 1) % 2, 3 * i, 90 + i);
+        }
+        x.seen(3, 4, 1);
+        x.note(2, 3, 4, 5, 6);
+        x.mark(6, 7, 8, 9);
+        x.outs(1);
+        x.days(2);
+        x.goes(6, 1);
+        long kept = x.digest();
+        x.image(1);
+        x.parish();
+        x.flitch(1, 1, 1);
+        x.family(1, 1, 1, 1);
+        x.seen(0, 0, 0);
+        x.note(0, 1, 0, 0, 0);
+        x.mark(0, 0, 0, 0);
+        x.turnip(0);
+        x.turnip(0);
+        x.turnip(0);
+        x.from(1);
+        due("digest() from an image of all", x.digest(), kept);
+        due("undo()", x.undo(), 2);
+        due("of(6, 2)", x.of(6, 2), 18);
+        due("undo()", x.undo(), 0);
+        due("of(6, 3)", x.of(6, 3), 96);
+        due("undo()", x.undo(), 0);
+        due("count(2)", x.count(2), 3);
     }
 
     private static void from() {

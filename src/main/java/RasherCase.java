@@ -491,7 +491,7 @@ public final class RasherCase {
         }
 
         static int scent(int kind, int strength, int far, int day) {
-            int plain = Math.max(0, strength - 2 * far);
+            int plain = strength > 2 * far ? strength - 2 * far : 0;
             int smoked = plain >= 1 ? plain + 2 : 0;
             int dripping = day % 7 == 0 ? plain + 5 : plain;
             switch (kind) {
@@ -504,7 +504,7 @@ public final class RasherCase {
                 case 4:
                     return (plain + 1) / 2;
                 case 5:
-                    return Math.max(1, dripping - far);
+                    return dripping - far > 1 ? dripping - far : 1;
                 default:
                     return plain;
             }

@@ -9,6 +9,14 @@ final class Check {
         promise = "promise " + number + " (" + name + ")";
     }
 
+    /** A sentence of the document with the calls that show it. */
+    void sentence(int number, String words, String... scripts) {
+        promise(number, words);
+        for (String script : scripts) {
+            new Script(this).run(script);
+        }
+    }
+
     void due(String call, long got, long want) {
         asked++;
         if (got != want) {

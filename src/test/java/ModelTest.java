@@ -8,8 +8,10 @@ import java.util.Random;
 /** The same calls, drawn by fixed seeds, go to the class and to the model; each answer and digest must be alike. */
 public final class ModelTest {
 
-    private static final int RUNS = 400;
-    private static final int CALLS = 400;
+    private static final int RUNS = 800;
+
+    /** What an object answers behind so many calls is free; the digest asked behind each call is one, too. */
+    private static final int MOST_CALLS = 512;
 
     private static final int KIND = 0, CELL = 1, STRENGTH = 2, SIDE = 3, WILL = 4, FLITCH = 5, FAMILY = 6, DAYS = 7,
         BEHIND = 8, FAR = 9, STEP = 10, WIND = 11, SEED = 12, WHAT = 13, FEW = 14, BYTE = 15, SCENT = 16, LOSS = 17,
@@ -72,6 +74,7 @@ public final class ModelTest {
     private final RasherCase x = new RasherCase();
     private final Model model = new Model();
     private final List<String> log = new ArrayList<>();
+    private int calls;
 
     private ModelTest(long seed, Check check) {
         this.random = new Random(seed);
@@ -98,7 +101,20 @@ public final class ModelTest {
         return luck < 8 ? low : luck < 14 ? high : draw(low, high);
     }
 
+    private boolean goesOn() {
+        return calls + 2 <= MOST_CALLS;
+    }
+
     private void call(String name, int... numbers) throws ReflectiveOperationException {
+        if (goesOn()) {
+            answer(name, numbers);
+            calls++;
+            check.due("digest behind " + log.get(log.size() - 1), x.digest(), model.digest());
+        }
+    }
+
+    private void answer(String name, int... numbers) throws ReflectiveOperationException {
+        calls++;
         Class<?>[] types = new Class<?>[numbers.length];
         Object[] boxed = new Object[numbers.length];
         StringBuilder words = new StringBuilder(name).append('(');
@@ -117,7 +133,6 @@ public final class ModelTest {
             System.out.println("ahead of it: " + log.subList(Math.max(0, log.size() - 60), log.size()));
         }
         check.due(words.toString(), got, want);
-        check.due("digest behind " + words, x.digest(), model.digest());
     }
 
     private void drawCall() throws ReflectiveOperationException {
@@ -216,10 +231,10 @@ public final class ModelTest {
         }
     }
 
-    private void run(int calls) throws ReflectiveOperationException {
+    private void run() throws ReflectiveOperationException {
         settle();
-        for (int n = 0; n < calls; n++) {
-            int luck = random.nextInt(150);
+        while (goesOn()) {
+            int luck = random.nextInt(100);
             if (luck == 0) {
                 tellText();
             } else if (luck == 1) {
@@ -234,7 +249,7 @@ public final class ModelTest {
     private void toTheLastDay() throws ReflectiveOperationException {
         settle();
         for (int n = 0; n < 166; n++) {
-            call("days", 60);
+            answer("days", 60);
         }
         for (int n = 0; n < 60; n++) {
             drawCall();
@@ -244,7 +259,7 @@ public final class ModelTest {
         for (int what = 0; what < 11; what++) {
             call("count", what);
         }
-        for (int n = 0; n < 60; n++) {
+        while (goesOn()) {
             drawCall();
         }
     }
@@ -254,7 +269,7 @@ public final class ModelTest {
         check.due("names of the face", FACE.size(), 40);
         for (int run = 0; run < RUNS; run++) {
             check.promise(run, "drawn run, not a promise");
-            new ModelTest(run, check).run(CALLS);
+            new ModelTest(run, check).run();
         }
         for (int run = 0; run < 5; run++) {
             check.promise(run, "drawn run to the last day, not a promise");

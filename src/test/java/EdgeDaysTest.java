@@ -28,6 +28,11 @@ public final class EdgeDaysTest {
             166 x days(60) | days(39) | count(4) = 9999 | count(9) = 8 | family(3, 0, 0, 7) | family(0, 1, 0, 1)
             flitch(0, 0, 2) | days(60) = 0 | of(0, 3) = 7 | of(1, 3) = 1 | of(1, 4) = 0 | when(1) = 1
             """);
+        // A reading, see NOTES.md: the call is one that may be undone, though no day goes by.
+        CHECK.sentence(8, "at 9999 none go by, the call is one that may be undone all the same", """
+            166 x days(60) | days(39) | family(0, 0, 0, 5) | count(9) = 0 | days(1) = 0 | count(9) = 1 | days(60) = 0
+            count(9) = 2 | undo() = 9999 | undo() = 9999 | undo() = NO | count(4) = 9999
+            """);
     }
 
     private static void oneDay() {
@@ -116,8 +121,10 @@ public final class EdgeDaysTest {
         CHECK.sentence(12, "8 at most", """
             family(0, 0, 0, 1)
             7 x turnip(0) | count(9) = 7 | turnip(0) = 25 | count(9) = 8 | turnip(0) = 28 | count(9) = 8
-            turnip(0) = 31 | count(9) = 8 | undo() | of(0, 3) = 28 | count(9) = 7 | 6 x undo() | of(0, 3) = 10
-            count(9) = 1 | undo() = 0 | of(0, 3) = 7 | count(9) = 0 | undo() = NO | of(0, 3) = 7
+            turnip(0) = 31 | count(9) = 8 | undo() = 0 | of(0, 3) = 28 | count(9) = 7 | undo() = 0 | of(0, 3) = 25
+            undo() = 0 | of(0, 3) = 22 | undo() = 0 | of(0, 3) = 19 | undo() = 0 | of(0, 3) = 16 | undo() = 0
+            of(0, 3) = 13 | undo() = 0 | of(0, 3) = 10 | count(9) = 1 | undo() = 0 | of(0, 3) = 7 | count(9) = 0
+            undo() = NO | of(0, 3) = 7
             """, """
             days(1) | days(2) | days(3) | days(4) | days(5) | days(6) | days(7) | days(8) | count(9) = 8
             undo() = 28 | undo() = 21 | undo() = 15 | undo() = 10 | undo() = 6 | undo() = 3 | undo() = 1 | undo() = 0

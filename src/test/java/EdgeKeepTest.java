@@ -32,6 +32,12 @@ public final class EdgeKeepTest {
             family(0, 0, 0, 1) = FULL | flitch(0, 0, 1) = FULL | seen(0, 0, 0) = FULL | note(0, 1, 0, 0, 0) = FULL
             mark(0, 0, 0, 0) = FULL | of(6, 3) = 88 | from(1) = 1 | count(0) = 0 | seen(0, 0, 0) = BAD
             """);
+        CHECK.sentence(37, "all seven and all three, whoever came in their place",
+            EdgeParishTest.full() + "image(1) = 1 | digest() = 7885414408615976560 | parish() = 7" + """
+            \n3 x flitch(1, 1, 1) | 7 x family(5, 1, 9, 33) | outs(1) | outs(2) | from(1) = 1
+            digest() = 7885414408615976560 | of(3, 0) = 3 | of(4, 1) = 0 | of(5, 2) = 6 | of(6, 3) = 64 | about(2, 2) = 7
+            about(2, 3) = 1
+            """);
         CHECK.sentence(37, "an IMAGE is kept anew", """
             family(0, 0, 0, 9) | image(0) = 1 | turnip(0) = 12 | image(0) = 1 | turnip(0) = 15 | from(0) = 1
             of(0, 3) = 12 | count(9) = 1 | undo() = 0 | of(0, 3) = 9 | from(0) = 1 | of(0, 3) = 12
@@ -46,6 +52,16 @@ public final class EdgeKeepTest {
             undo() = 1 | of(0, 2) = 0 | undo() = 0 | of(0, 3) = 9 | undo() = NO | from(1) = 1 | count(9) = 3
             """, """
             family(0, 0, 0, 9) | image(0) = 1 | turnip(0) | from(0) = 1 | count(9) = 0 | undo() = NO | of(0, 3) = 9
+            """);
+        CHECK.sentence(37, "what was SEEN, NOTED, MARKED and may be undone is kept as it was, whatever came after", """
+            flitch(0, 0, 2) | flitch(0, 24, 1) | family(0, 0, 0, 9) | family(0, 1, 0, 9) | seen(0, 5, 0) | seen(0, 6, 1)
+            note(0, 7, 0, 1, 7) | note(0, 7, 0, 14, 12) | mark(1, 7, 1, 3) | mark(1, 7, 20, 4)
+            turnip(0) | goes(1, 7) | wills(0, 0) = 1 | wills(0, 1) = 6 | is(0) = 36 | kinds(1) = 16 | image(1) = 1
+            forget(0) | forget(1) | forget(2) | seen(1, 60, 0) | seen(1, 1, 1) | note(1, 1, 1, 1, 1)
+            note(1, 2, 2, 2, 2) | mark(0, 1, 1, 1) | mark(0, 2, 2, 2) | undo() = 0 | undo() = 0 | outs(1) | days(9)
+            wills(0, 0) = 99 | is(0) = 63 | kinds(1) = 63 | from(1) = 1 | wills(0, 0) = 1 | wills(0, 1) = 6 | is(0) = 36
+            kinds(1) = 16 | is(1) = 63 | wills(1, 0) = 99 | undo() = 0 | of(1, 2) = 0 | of(0, 3) = 12 | undo() = 0
+            of(0, 3) = 9 | about(1, 3) = 1 | undo() = NO
             """);
         CHECK.sentence(37, "all but them, THE TEXT, THE FRACTION and STATUS", """
             flitch(0, 0, 2) | family(0, 0, 0, 1) | type(65) = 1 | mornings(0, 1, 3) | image(0) = 1 | image(1) = 1
@@ -100,6 +116,21 @@ public final class EdgeKeepTest {
             + "70 x flitch(0, 0, 1) = FULL | status(0) = 100 | status(1) = 50 | status(2) = 70");
     }
 
+    /** The last call that is promised, asked without a script, which would need calls of its own. */
+    private static void lastCall() {
+        CHECK.promise(39, "an object is used for at most 512 calls");
+        RasherCase x = new RasherCase();
+        for (int call = 1; call <= 511; call++) {
+            CHECK.due("call " + call + ": days(0)", x.days(0), RasherCase.BAD);
+        }
+        CHECK.due("call 512: status(0)", x.status(0), 511);
+        RasherCase y = new RasherCase();
+        for (int call = 1; call <= 511; call++) {
+            CHECK.due("call " + call + ": days(60)", y.days(60), 0);
+        }
+        CHECK.due("call 512: count(4)", y.count(4), 9999);
+    }
+
     private static void count() {
         CHECK.sentence(40, "how many: 0 to 10; BAD", """
             count(-1) = BAD | count(11) = BAD | count(MIN) = BAD | count(MAX) = BAD | count(0) = 0 | count(10) = 0
@@ -138,6 +169,7 @@ public final class EdgeKeepTest {
         image();
         from();
         status();
+        lastCall();
         count();
         digest();
         CHECK.end("EdgeKeepTest");

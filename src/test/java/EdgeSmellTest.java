@@ -125,6 +125,18 @@ public final class EdgeSmellTest {
             """);
     }
 
+    private static void besides() {
+        StringBuilder script = new StringBuilder();
+        for (int a = 0; a < 25; a++) {
+            for (int b = 0; b < 25; b++) {
+                if (Math.abs(a / 5 - b / 5) + Math.abs(a % 5 - b % 5) == 1) {
+                    script.append("way(" + a + ", " + b + ", 0) = " + b + " | way(" + a + ", " + b + ", -3) = 1\n");
+                }
+            }
+        }
+        CHECK.sentence(20, "steps to a CELL beside: each of them", script.toString());
+    }
+
     private static void wayItself() {
         CHECK.sentence(20, "the SMELLS of all CELLS that one comes to (b, too, not a) together are least", """
             flitch(0, 12, 2) | way(12, 11, -2) = 0 | way(11, 12, -2) = 2 | way(12, 12, -2) = 0 | way(11, 13, -2) = 0
@@ -171,6 +183,15 @@ public final class EdgeSmellTest {
             flitch(0, 24, 20) | family(0, 0, 24, 7) | smell(0, 0) = 4 | smell(1, 0) = 6 | home(0) = 0
             """, """
             flitch(0, 0, 18) | family(0, 0, 0, 50) | smell(24, 0) = 2 | smell(23, 0) = 4 | home(0) = 24
+            """);
+        CHECK.sentence(21, "the CELL (0 .. 24): the one farthest off, out of each corner", """
+            flitch(0, 4, 20) | family(0, 0, 4, 9) | home(0) = 20
+            """, """
+            flitch(0, 20, 20) | family(0, 0, 4, 9) | home(0) = 4
+            """, """
+            flitch(0, 24, 20) | family(0, 0, 4, 9) | home(0) = 0
+            """, """
+            flitch(0, 0, 20) | family(0, 0, 4, 9) | home(0) = 24
             """);
         CHECK.sentence(21, "none is later than any", """
             flitch(0, 0, 2) | family(0, 0, 24, 60) | family(0, 0, 0, 61) | home(0) = 1 | home(1) = 0 | days(1)
@@ -266,6 +287,7 @@ public final class EdgeSmellTest {
         right();
         ends();
         wayArguments();
+        besides();
         wayItself();
         home();
         quiet();

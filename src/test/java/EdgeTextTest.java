@@ -30,6 +30,16 @@ public final class EdgeTextTest {
                 + "of(0, 2) = 13 | of(0, 3) = 42 | count(4) = 1");
         reads("out k (put out, or hung again)", "parish;flitch 0 0 4;out 0;days 1;out 0;family 0 0 0 9;days 1;", 7,
             "about(0, 3) = 1 | of(0, 3) = 7 | count(4) = 2");
+        reads("each ITEM does what it says and no more", "parish;flitch 0 0 4;flitch 0 0 4;flitch 0 0 4;family 0 0 0 9;", 5,
+            "count(2) = 3 | count(4) = 0 | of(0, 3) = 9 | count(0) = 1");
+        reads("each ITEM does what it says and no more", "parish;flitch 0 0 4;flitch 0 0 4;flitch 1 2 4;out 2;out 1;", 6,
+            "count(2) = 1 | about(0, 3) = 1 | count(4) = 0 | count(0) = 0 | count(1) = 3");
+        reads("each ITEM does what it says and no more", "parish;flitch 0 0 4;flitch 0 0 4;family 1 0 0 9;days 1;", 5,
+            "count(2) = 2 | count(4) = 1 | of(0, 3) = 6 | count(0) = 1 | count(1) = 2");
+        reads("all seven, all three, whoever was there", "parish;flitch1 2 3;flitch4 5 6;flitch5 7 8;family1 1 1 11;"
+            + "family2 0 2 12;family3 1 3 13;family4 0 4 14;family5 1 5 15;family0 0 6 16;family1 1 7 17;", 11,
+            "about(2, 0) = 5 | about(2, 1) = 7 | about(2, 2) = 8 | of(3, 0) = 4 | of(4, 1) = 1 | of(5, 2) = 6\n"
+                + "of(6, 3) = 17 | of(6, 0) = 1 | of(6, 1) = 1 | of(6, 2) = 7 | count(5) = 98");
         reads("blanks (32) between", "  parish  ;  flitch  0  0  1  ;  ", 2, "count(1) = 1");
         reads("days gone by while nobody was there take nothing", "parish;flitch 0 0 9;days 9;family 0 0 0 1;", 4,
             "of(0, 3) = 1 | count(3) = 0 | count(4) = 9");
@@ -66,7 +76,19 @@ public final class EdgeTextTest {
         fault("a word that is none", "parish;ou 0;", 7);
         fault("a word that is none", "parish;a", 7);
         fault("a word that is none", "parish; z;", 8);
+        fault("a word whose first letter is another", "barish;", 0);
+        fault("a word whose first letter is another", "parish;glitch 0 0 1;", 7);
+        fault("a word whose first letter is another", "parish;gamily 0 0 0 1;", 7);
+        fault("a word whose first letter is another", "parish;bays 1;", 7);
+        fault("a word whose first letter is another", "parish;flitch 0 0 1;put 0;", 20);
+        fault("a word whose last letter is another", "parisa;", 0);
+        fault("a word whose last letter is another", "parish;flitcz 0 0 1;", 7);
         fault("a word where a number is due", "parish;days days;", 12);
+        fault("a word where a number is due", "parish;flitch x 0 1;", 14);
+        fault("a word where a number is due", "parish;flitch 0 flitch 1;", 16);
+        fault("a word where a number is due", "parish;family 0 x 0 1;", 16);
+        fault("a word where a number is due", "parish;flitch 0 0 1;out out;", 24);
+        fault("; where a number is due", "parish;flitch 0 ; 1;", 16);
         fault("a word where ; is due", "parish;days 1 days 1;", 14);
         fault("; where a word is due", "parish;;", 7);
         fault("; where a number is due", "parish;days;", 11);
@@ -204,6 +226,27 @@ public final class EdgeTextTest {
             "text parish;flitch 0 0 1;" + "out 0;".repeat(21) + "    \nread() = 23 | about(0, 3) = 0");
     }
 
+    /** What was typed ahead of clearing lies behind the end of a shorter text, where nothing may see it. */
+    private static void cleared() {
+        CHECK.sentence(6, "THE TEXT is empty: nothing behind the end of the next one is read", """
+            text parish;days 12;
+            text parish;days 1
+            read() = -23
+            text parish;days 1;
+            text parish;day
+            read() = -17
+            text parish;flitch 0 0 1;
+            text parish;flitch
+            read() = -23
+            text parish;days 1;days 1;
+            text parish;days 1;
+            read() = 2 | count(4) = 1
+            text         parish;
+            text parish
+            read() = -16
+            """);
+    }
+
     private static void whatStays() {
         CHECK.sentence(7, "takes the place of all but IMAGES, THE TEXT, THE FRACTION, STATUS", STANDING + """
             undo() = 1 | undo() = 0 | undo() = NO | days(0) = BAD | image(1)
@@ -232,6 +275,7 @@ public final class EdgeTextTest {
         flitchNotThereYet();
         room();
         tooEarly();
+        cleared();
         whatStays();
         CHECK.end("EdgeTextTest");
     }

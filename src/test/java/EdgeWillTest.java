@@ -180,6 +180,8 @@ public final class EdgeWillTest {
             """, """
             flitch(0, 0, 3) | note(0, 1, 0, 0, 6) | is(0) = 44 | look(0) = 20
             """, """
+            flitch(0, 0, 3) | note(0, 1, 0, 1, 1) | is(0) = 53 | look(0) = 0
+            """, """
             flitch(0, 0, 20) | note(0, 1, 0, 0, 6) | is(0) = 44 | look(0) = 10 | forget(1) | note(0, 4, 1, 1, 2)
             is(0) = 5 | look(0) = 0
             """);
@@ -275,6 +277,11 @@ public final class EdgeWillTest {
             mornings(0, 6, 5) | part(0) = 1 | part(1) = 64 | mornings(0, 5, 0) | part(0) = 0 | part(1) = 1
             mornings(0, 6, 0) | part(0) = 1 | part(1) = 1 | turnip(0) | mornings(0, 6, 0) | part(0) = 0 | part(1) = 1
             """);
+        CHECK.sentence(34, "nothing SMELLS: a smell of 0, not of 1", """
+            flitch(0, 0, 1) | family(2, 0, 0, 6) | family(5, 0, 0, 8) | mornings(0, 6, 10) | part(0) = 0
+            mornings(1, 6, 10) | part(0) = 0 | mornings(0, 3, 5) | part(0) = 1 | part(1) = 8 | mornings(1, 2, 5)
+            part(0) = 1 | part(1) = 4 | mornings(0, 2, 0) | part(0) = 0 | mornings(1, 1, 0) | part(0) = 0
+            """);
         CHECK.sentence(34, "has LAPSED behind them: behind none", """
             flitch(0, 0, 2) | family(0, 0, 0, 1) | mornings(0, 0, 0) | part(0) = 0 | part(1) = 1 | days(1) = 1
             mornings(0, 0, 10) | part(0) = 1 | part(1) = 1 | mornings(0, 6, 10) | part(0) = 1 | part(1) = 1
@@ -311,6 +318,21 @@ public final class EdgeWillTest {
             """, """
             flitch(0, 16, 2) | 6 x family(0, 0, 24, 1) | years(0, 2) = 0 | family(0, 0, 24, 1) | years(0, 1) = 0
             years(0, 2) = 1
+            """);
+        CHECK.sentence(35, "X by 65536 (cut), X by 1048576 (cut): just ahead of the next, just behind the last", """
+            flitch(0, 15, 2) | family(0, 0, 24, 1) | years(5, 1) = 1
+            """, """
+            flitch(0, 9, 2) | 2 x family(0, 0, 24, 1) | years(3, 1) = 0 | family(0, 0, 24, 1) | years(3, 1) = 1
+            """, """
+            flitch(0, 12, 2) | family(0, 0, 24, 1) | years(822, 1) = 1 | parish() | flitch(0, 11, 2)
+            family(0, 0, 24, 1) | years(822, 1) = 0
+            """, """
+            flitch(0, 7, 2) | 2 x family(0, 0, 24, 1) | years(3590, 1) = 1 | parish() | flitch(0, 8, 2)
+            2 x family(0, 0, 24, 1) | years(3590, 1) = 0
+            """);
+        CHECK.sentence(35, "who does not go lives where he did", """
+            flitch(0, 24, 2) | family(0, 0, 3, 2) | family(0, 0, 24, 2) | years(0, 1) = 0 | years(0, 2) = 1 | goes(0, 24)
+            years(0, 2) = 1 | years(0, 60) | of(0, 2) = 24 | of(1, 2) = 24
             """);
         CHECK.sentence(35, "ahead of each DAY; how many have LAPSED behind them, also ahead of them", """
             flitch(0, 0, 4) | family(0, 0, 24, 4) | years(0, 1) = 0 | years(0, 2) = 1 | family(0, 1, 0, 2)

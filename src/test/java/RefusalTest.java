@@ -159,10 +159,34 @@ public final class RefusalTest {
         }
     }
 
+    /** What has no room or can not be where all is full, and where some is. */
+    private static void otherReasons() {
+        CHECK.sentence(39, "FULL where there is no room: changing nothing but STATUS", ALL + """
+            flitch(0, 0, 1) = FULL | flitch(5, 24, 20) = FULL | family(0, 0, 0, 1) = FULL | family(5, 1, 24, 99) = FULL
+            type(0) = FULL | type(127) = FULL | seen(0, 0, 0) = FULL | seen(6, 60, 1) = FULL
+            note(0, 1, 0, 0, 0) = FULL | note(2, 20, 8, 99, 60) = FULL | mark(0, 0, 0, 0) = FULL
+            mark(6, 60, 99, 40) = FULL | status(0) = 0 | status(1) = 0 | status(2) = 12
+            """);
+        CHECK.sentence(39, "NO as told: changing nothing but STATUS", ALL + """
+            goes(6, 2) = NO | goes(0, 0) = NO | turnip(1) = NO | brothers(0, 1) = NO | brothers(1, 0) = NO
+            brothers(0, 2) = NO | brothers(0, 0) = NO | status(0) = 0 | status(1) = 7 | status(2) = 0
+            """, SOME + """
+            from(0) = NO | goes(0, 4) = NO | turnip(1) = NO | brothers(0, 1) = NO | brothers(1, 2) = NO | status(1) = 5
+            undo() | undo() | undo() | undo() = 0 | undo() = NO | undo() = NO | status(1) = 7
+            """, "undo() = NO | from(0) = NO | from(1) = NO | status(1) = 3");
+        CHECK.sentence(39, "the first of: BAD, NO, FULL", ALL + """
+            goes(7, 0) = BAD | goes(0, 25) = BAD | turnip(7) = BAD | brothers(1, 7) = BAD | brothers(7, 1) = BAD
+            brothers(7, 7) = BAD | flitch(0, 0, 0) = BAD | family(0, 0, 0, 0) = BAD | type(128) = BAD
+            seen(1, 61, 1) = BAD | note(3, 1, 0, 0, 0) = BAD | mark(0, 0, 0, 41) = BAD | status(0) = 12
+            status(1) = 0 | status(2) = 0
+            """);
+    }
+
     public static void main(String[] args) {
         new RefusalTest(0, 0).refuse("a new object", "");
         new RefusalTest(3, 2).refuse("one that has some", SOME);
         new RefusalTest(7, 3).refuse("one that has all", ALL);
+        otherReasons();
         CHECK.end("RefusalTest");
     }
 }

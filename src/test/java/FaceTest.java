@@ -118,17 +118,20 @@ public final class FaceTest {
     private static void room() {
         com.sun.management.ThreadMXBean threads =
             (com.sun.management.ThreadMXBean) ManagementFactory.getThreadMXBean();
-        RasherCase x = new RasherCase();
-        useAll(x);
+        RasherCase[] ready = new RasherCase[50];
+        for (int n = 0; n < ready.length; n++) {
+            ready[n] = new RasherCase();
+            useAll(ready[n]);
+        }
         long self = Thread.currentThread().getId();
         long before = threads.getThreadAllocatedBytes(self);
-        for (int round = 0; round < 50; round++) {
+        for (RasherCase x : ready) {
             useAll(x);
         }
         long taken = threads.getThreadAllocatedBytes(self) - before;
         CHECK.holds(taken + " bytes for 50 rounds of calls", taken < 20000);
         before = threads.getThreadAllocatedBytes(self);
-        RasherCase last = x;
+        RasherCase last = ready[0];
         for (int n = 0; n < 100; n++) {
             last = new RasherCase();
         }

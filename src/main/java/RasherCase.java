@@ -1098,25 +1098,26 @@ public final class RasherCase {
                 partner[i] = NONE;
             }
             mostPairs = -1;
-            pairFrom(0, 0);
+            pairFrom(this, 0, 0);
         }
 
-        private void pairFrom(int i, int pairs) {
-            if (i >= parish.familyCount || i >= MOST_FAMILIES) {
-                keepIfMore(pairs);
+        /** Static, for LANGUAGE.md lets only such a method call itself; i is the depth, too. */
+        private static void pairFrom(Couples all, int i, int pairs) {
+            if (i >= all.parish.familyCount || i >= MOST_FAMILIES) {
+                all.keepIfMore(pairs);
                 return;
             }
-            pairFrom(i + 1, pairs);
-            if (partner[i] != NONE) {
+            pairFrom(all, i + 1, pairs);
+            if (all.partner[i] != NONE) {
                 return;
             }
-            for (int j = i + 1; j < parish.familyCount; j++) {
-                if (partner[j] == NONE && mayMarry(i, j)) {
-                    partner[i] = j;
-                    partner[j] = i;
-                    pairFrom(i + 1, pairs + 1);
-                    partner[i] = NONE;
-                    partner[j] = NONE;
+            for (int j = i + 1; j < all.parish.familyCount && j < MOST_FAMILIES; j++) {
+                if (all.partner[j] == NONE && all.mayMarry(i, j)) {
+                    all.partner[i] = j;
+                    all.partner[j] = i;
+                    pairFrom(all, i + 1, pairs + 1);
+                    all.partner[i] = NONE;
+                    all.partner[j] = NONE;
                 }
             }
         }

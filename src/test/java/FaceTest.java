@@ -11,6 +11,7 @@ import java.util.Arrays;
 import java.util.List;
 import java.util.Set;
 import java.util.TreeSet;
+import java.util.regex.Matcher;
 import java.util.regex.Pattern;
 
 /** The face of the document to the letter, the rules of LANGUAGE.md that can be looked up, and the room. */
@@ -97,6 +98,22 @@ public final class FaceTest {
         int classes = code.split("\\bclass\\b", -1).length - 1;
         CHECK.holds(classes + " classes, some twelve at most", classes <= 12);
         methodsAreShort(code);
+        recursionIsStatic(code);
+    }
+
+    /** Rule 8: a method that calls itself is private and static. A call on another object has a dot ahead of it. */
+    private static void recursionIsStatic(String code) {
+        Matcher head = Pattern.compile("\n( {4}| {8})([a-z][\\w\\[\\] ]*?) (\\w+)\\([^()]*\\) \\{\n").matcher(code);
+        int methods = 0;
+        while (head.find()) {
+            methods++;
+            int end = code.indexOf("\n" + head.group(1) + "}", head.end() - 1);
+            String body = end < 0 ? "" : code.substring(head.end() - 1, end);
+            boolean callsItself = Pattern.compile("(?<![.\\w])" + head.group(3) + "\\(").matcher(body).find();
+            CHECK.holds(head.group(3) + " calls itself, so it is private and static",
+                !callsItself || head.group(2).startsWith("private static "));
+        }
+        CHECK.holds(methods + " methods were looked at", methods > 100);
     }
 
     private static void methodsAreShort(String code) {
